@@ -142,9 +142,7 @@ public final class ForestOfPoles {
         if (n < 1 || n > MOST_HOURS || now.forest.hour + n > LAST_HOUR) {
             return OTHERS;
         }
-        for (int i = 0; i < n; i++) {
-            now.stepHour();
-        }
+        now.stepHours(n);
         return now.forest.holder;
     }
 
@@ -170,7 +168,20 @@ public final class ForestOfPoles {
         }
         Text script = now.text[text];
         for (int i = 0; i < script.clauses; i++) {
-            if (!now.act(script.kind[i], script.first[i], script.second[i])) {
+            int first = script.first[i];
+            int second = script.second[i];
+            boolean done = true;
+            switch (script.kind[i]) {
+                case POLE: done = now.forest.plant(first, second) != NONE; break;
+                case POWER: done = now.forest.admit(first, 0) != NONE; break;
+                case HOIST: done = now.stepRaise(first, second); break;
+                case LOWER: done = now.stepTakeDown(first, second); break;
+                case PRUNE: done = now.stepCut(first, second); break;
+                case BLOW: done = now.stepWind(first); break;
+                case HOUR: done = now.stepHours(first); break;
+                default: // a law is no deed
+            }
+            if (!done) {
                 return i;
             }
         }
@@ -230,9 +241,9 @@ public final class ForestOfPoles {
         switch (what) {
             case 0: return forest.height[at];
             case 1: return forest.wear[at];
-            case 2: return now.ruler().climbsOf(forest, pole, power);
-            case 3: return now.ruler().tearsOf(forest, pole, power);
-            case 4: return now.ruler().lets(forest, pole, power) ? 1 : 0;
+            case 2: return now.ruler().says(CLIMBS, forest, pole, power);
+            case 3: return now.ruler().says(TEARS, forest, pole, power);
+            case 4: return now.ruler().says(COUNTS, forest, pole, power);
             default: return NO_FLAG;
         }
     }
@@ -490,26 +501,20 @@ public final class ForestOfPoles {
             int hour = forest.hour;
             int before = forest.holder;
             forest.pass(ruler());
+            forest.drawWind();
             if (forest.holder != before) {
                 pages.write(hour, forest.holder);
             }
         }
 
-        boolean stepHour() {
-            if (forest.hour >= LAST_HOUR) {
-                return false;
-            }
-            keepStep();
-            passHour();
-            return true;
-        }
-
+        /** As many of n hours as can pass; whether all do. */
         boolean stepHours(int n) {
-            boolean passed = true;
-            for (int i = 0; i < n && passed; i++) {
-                passed = stepHour();
+            int can = Math.min(n, LAST_HOUR - forest.hour);
+            for (int i = 0; i < can; i++) {
+                keepStep();
+                passHour();
             }
-            return passed;
+            return can == n;
         }
 
         boolean stepRaise(int power, int pole) {
@@ -546,20 +551,6 @@ public final class ForestOfPoles {
             keepStep();
             forest.wind = wind;
             return true;
-        }
-
-        /** One clause of a script as by hand; false if it can't be. Laws are no deeds, so they always can. */
-        boolean act(int kind, int first, int second) {
-            switch (kind) {
-                case POLE: return forest.plant(first, second) != NONE;
-                case POWER: return forest.admit(first, 0) != NONE;
-                case HOIST: return stepRaise(first, second);
-                case LOWER: return stepTakeDown(first, second);
-                case PRUNE: return stepCut(first, second);
-                case BLOW: return stepWind(first);
-                case HOUR: return stepHours(first);
-                default: return true;
-            }
         }
 
         /** One draw of CENTURIES, without a step of its own. */
@@ -673,10 +664,6 @@ public final class ForestOfPoles {
             return isPower(power) && isPole(pole) && height[pole * MOST_POWERS + power] != NONE;
         }
 
-        int flagsOn(int pole) {
-            return Integer.bitCount(powersOn(pole));
-        }
-
         int powersOn(int pole) {
             int bits = 0;
             for (int power = 0; power < powers; power++) {
@@ -707,7 +694,7 @@ public final class ForestOfPoles {
 
         boolean mayRaise(int power, int pole) {
             return isPower(power) && isPole(pole) && height[pole * MOST_POWERS + power] == NONE
-                    && flagsOn(pole) < FLAGS_ON_ONE;
+                    && Integer.bitCount(powersOn(pole)) < FLAGS_ON_ONE;
         }
 
         void raise(int power, int pole) {
@@ -739,22 +726,21 @@ public final class ForestOfPoles {
             return drawn;
         }
 
-        void pass(Text ruler) {
-            passUnder(ruler);
+        void drawWind() {
             wind = draw() % (MOST_WIND + 1);
         }
 
         /** An hour but for the next one's wind, which a draw or a question gives. */
-        void passUnder(Text ruler) {
+        void pass(Text ruler) {
             for (int pole = 0; pole < poles; pole++) {
                 for (int power = 0; power < powers; power++) {
                     int at = pole * MOST_POWERS + power;
                     if (height[at] == NONE) {
                         continue;
                     }
-                    int higher = height[at] + ruler.climbsOf(this, pole, power);
+                    int higher = height[at] + ruler.says(CLIMBS, this, pole, power);
                     height[at] = Math.max(0, Math.min(tall[pole], higher));
-                    wear[at] += ruler.tearsOf(this, pole, power);
+                    wear[at] += ruler.says(TEARS, this, pole, power);
                     if (wear[at] > MOST_WEAR) {
                         takeDown(power, pole);
                     }
@@ -774,7 +760,7 @@ public final class ForestOfPoles {
             for (int pole = 0; pole < poles; pole++) {
                 for (int power = 0; power < powers; power++) {
                     int high = height[pole * MOST_POWERS + power];
-                    if (high == NONE || high < top || !ruler.lets(this, pole, power)) {
+                    if (high == NONE || high < top || ruler.says(COUNTS, this, pole, power) == 0) {
                         continue;
                     }
                     if (high > top || goesAhead(power, best)) {
@@ -810,16 +796,17 @@ public final class ForestOfPoles {
             return best;
         }
 
-        /** The least feet to be cut so that a power's highest flag stands above all others'. */
+        /** PEACE by its words: a pole on which the power is at its highest is never cut, and one of these is to be free. */
         int leastCut(int power) {
             int top = greatest(power);
             boolean stands = false;
             int feet = 0;
             for (int pole = 0; pole < poles; pole++) {
-                if (greatestBut(power, pole) >= top) {
+                boolean own = height[pole * MOST_POWERS + power] == top;
+                boolean othersAsHigh = greatestBut(power, pole) >= top;
+                stands = stands || own && !othersAsHigh;
+                if (!own && othersAsHigh) {
                     feet += tall[pole] - (top - 1);
-                } else if (height[pole * MOST_POWERS + power] == top) {
-                    stands = true;
                 }
             }
             boolean tooLow = top < 2 && feet > 0;
@@ -836,6 +823,15 @@ public final class ForestOfPoles {
             return best;
         }
 
+        /** What holds for a flag where no law says it. */
+        int byCustom(int law, int pole, int power) {
+            switch (law) {
+                case CLIMBS: return hands[power];
+                case TEARS: return wind;
+                default: return height[pole * MOST_POWERS + power] > 0 ? 1 : 0;
+            }
+        }
+
         /** What a NAME of the language is for a flag. */
         int named(int name, int pole, int power) {
             switch (name) {
@@ -846,7 +842,7 @@ public final class ForestOfPoles {
                 case TALL: return tall[pole];
                 case HEIGHT: return height[pole * MOST_POWERS + power];
                 case WEAR: return wear[pole * MOST_POWERS + power];
-                case HERE: return flagsOn(pole);
+                case HERE: return Integer.bitCount(powersOn(pole));
                 case PLACE: return place[pole];
                 case HOLDS: return holder == power ? 1 : 0;
                 default: return 0;
@@ -964,6 +960,9 @@ public final class ForestOfPoles {
         static final int SIGNS = 20000;
         static final int LISTS = 30000;
         static final int MOST_VALUE = 1000000;
+        /** By laws: the bounds of what each says. */
+        private static final int[] LEAST = {-99, 0, 0};
+        private static final int[] MOST = {99, 100, 1};
 
         private final int[] code = new int[Tape.MOST];
         private int size = 0;
@@ -1030,29 +1029,11 @@ public final class ForestOfPoles {
             }
         }
 
-        int climbsOf(Forest forest, int pole, int power) {
-            if (!has(CLIMBS)) {
-                return forest.hands[power];
+        /** What a law says of a flag, within that law's bounds; of an ASK 1 if it is so, else 0. */
+        int says(int law, Forest forest, int pole, int power) {
+            if (!has(law)) {
+                return forest.byCustom(law, pole, power);
             }
-            return Math.max(-99, Math.min(99, value(CLIMBS, forest, pole, power)));
-        }
-
-        int tearsOf(Forest forest, int pole, int power) {
-            if (!has(TEARS)) {
-                return forest.wind;
-            }
-            return Math.max(0, Math.min(100, value(TEARS, forest, pole, power)));
-        }
-
-        /** Whether a flag counts. */
-        boolean lets(Forest forest, int pole, int power) {
-            if (!has(COUNTS)) {
-                return forest.height[pole * MOST_POWERS + power] > 0;
-            }
-            return value(COUNTS, forest, pole, power) != 0;
-        }
-
-        private int value(int law, Forest forest, int pole, int power) {
             int top = 0;
             for (int i = from[law]; i < upTo[law]; i++) {
                 int item = code[i];
@@ -1063,7 +1044,8 @@ public final class ForestOfPoles {
                     top++;
                 }
             }
-            return top > 0 ? stack[top - 1] : 0;
+            int value = top > 0 ? stack[top - 1] : 0;
+            return Math.max(LEAST[law], Math.min(MOST[law], value));
         }
 
         /** Puts what a sign makes of the values on top of the stack in their stead; how many there are then. */
@@ -1072,18 +1054,32 @@ public final class ForestOfPoles {
                 return joinList(item - LISTS, top);
             }
             int sign = item - SIGNS;
-            if (sign == LESS_ONE || sign == UNLESS) {
-                if (top > 0) {
-                    int value = stack[top - 1];
-                    stack[top - 1] = sign == LESS_ONE ? -value : 1 - value;
-                }
+            int joins = sign == LESS_ONE || sign == UNLESS ? 1 : 2;
+            if (top < joins) {
                 return top;
             }
-            if (top < 2) {
-                return top;
+            long a = stack[top - joins];
+            long b = stack[top - 1];
+            long value = 0;
+            switch (sign) {
+                case LESS_ONE: value = -b; break;
+                case UNLESS: value = 1 - b; break;
+                case BOTH: value = a & b; break;
+                case EITHER: value = a | b; break;
+                case '<': value = a < b ? 1 : 0; break;
+                case '>': value = a > b ? 1 : 0; break;
+                case '=': value = a == b ? 1 : 0; break;
+                case '#': value = a != b ? 1 : 0; break;
+                case AT_MOST: value = a <= b ? 1 : 0; break;
+                case AT_LEAST: value = a >= b ? 1 : 0; break;
+                case '+': value = a + b; break;
+                case '-': value = a - b; break;
+                case '*': value = a * b; break;
+                case '/': value = b == 0 ? 0 : a / b; break;
+                default: // no other sign is written
             }
-            stack[top - 2] = joined(sign, stack[top - 2], stack[top - 1]);
-            return top - 1;
+            stack[top - joins] = (int) Math.max(-MOST_VALUE, Math.min(MOST_VALUE, value));
+            return top - joins + 1;
         }
 
         private int joinList(int listed, int top) {
@@ -1099,31 +1095,6 @@ public final class ForestOfPoles {
             }
             stack[at] = isOne;
             return at + 1;
-        }
-
-        private static int joined(int sign, int a, int b) {
-            switch (sign) {
-                case '<': return a < b ? 1 : 0;
-                case '>': return a > b ? 1 : 0;
-                case '=': return a == b ? 1 : 0;
-                case '#': return a != b ? 1 : 0;
-                case AT_MOST: return a <= b ? 1 : 0;
-                case AT_LEAST: return a >= b ? 1 : 0;
-                case BOTH: return a & b;
-                case EITHER: return a | b;
-                default: return bounded(sign, a, b);
-            }
-        }
-
-        private static int bounded(int sign, int a, int b) {
-            long value = 0;
-            switch (sign) {
-                case '+': value = (long) a + b; break;
-                case '-': value = (long) a - b; break;
-                case '*': value = (long) a * b; break;
-                default: value = b == 0 ? 0 : a / b;
-            }
-            return (int) Math.max(-MOST_VALUE, Math.min(MOST_VALUE, value));
         }
     }
 
@@ -1583,6 +1554,7 @@ public final class ForestOfPoles {
             level[0].copyFrom(state.forest);
             for (int i = 0; i < n; i++) {
                 level[0].pass(state.ruler());
+                level[0].drawWind();
             }
             return level[0];
         }
@@ -1606,7 +1578,7 @@ public final class ForestOfPoles {
                 return;
             }
             Forest forest = level[depth];
-            forest.passUnder(ruler);
+            forest.pass(ruler);
             int runsEach = runs / 10;
             if (forest.holder == power) {
                 held += runsEach;
@@ -1631,35 +1603,32 @@ public final class ForestOfPoles {
             return NONE;
         }
 
-        /** What can't be hoisted isn't tried: leaving it out does the same with fewer. */
+        /** From level depth on, with so many hoists left. */
         private boolean seek(Text ruler, int power, int n, int depth, int left) {
+            Forest forest = level[depth];
             if (depth >= n || depth >= MOST_PLAN) {
-                return left == 0 && level[depth].holder == power;
+                return left == 0 && forest.holder == power;
             }
-            if (left < n - depth && tryPlan(ruler, power, depth, MOST_POLES)
-                    && seek(ruler, power, n, depth + 1, left)) {
-                return true;
-            }
-            for (int pole = 0; pole < level[depth].poles && left > 0; pole++) {
-                if (tryPlan(ruler, power, depth, pole) && seek(ruler, power, n, depth + 1, left - 1)) {
+            Forest next = level[depth + 1];
+            for (int pole = NONE; pole < forest.poles; pole++) {
+                boolean hoists = pole != NONE;
+                // what can't be hoisted isn't tried: to leave it out does the same with fewer
+                boolean can = hoists ? left > 0 && forest.mayRaise(power, pole) : left < n - depth;
+                if (!can) {
+                    continue;
+                }
+                next.momentFrom(forest);
+                if (hoists) {
+                    next.raise(power, pole);
+                }
+                next.pass(ruler);
+                next.drawWind();
+                plan[depth] = hoists ? pole : MOST_POLES;
+                if (seek(ruler, power, n, depth + 1, hoists ? left - 1 : left)) {
                     return true;
                 }
             }
             return false;
-        }
-
-        private boolean tryPlan(Text ruler, int power, int depth, int pole) {
-            Forest next = level[depth + 1];
-            next.momentFrom(level[depth]);
-            if (pole != MOST_POLES) {
-                if (!next.mayRaise(power, pole)) {
-                    return false;
-                }
-                next.raise(power, pole);
-            }
-            next.pass(ruler);
-            plan[depth] = pole;
-            return true;
         }
 
         /** By how many feet less a pole must be so that the cape would be another's. */
