@@ -71,8 +71,12 @@ public final class ForestOfPoles {
 
     public ForestOfPoles() {
         int[] stack = new int[Text.MOST_STACK];
-        now = new State(stack);
-        kept = new State(stack);
+        Text[] texts = new Text[MOST_TEXTS + 1];
+        for (int i = 0; i <= MOST_TEXTS; i++) {
+            texts[i] = new Text(stack);
+        }
+        now = new State(texts);
+        kept = new State(texts);
         tape = new Tape();
         reader = new Reader(tape);
         lookout = new Lookout();
@@ -460,16 +464,16 @@ public final class ForestOfPoles {
         final Steps steps = new Steps();
         final Finds finds = new Finds();
         final Claims claims = new Claims();
-        final Text[] text = new Text[MOST_TEXTS];
+        /**
+         * One row for an object and its image: a text that an image has is never read anew, since texts grow only,
+         * but for going back to that image. The last one is never read: it has no laws.
+         */
+        final Text[] text;
         int texts = 0;
         int ruling = NONE;
-        private final Text lawless;
 
-        State(int[] stack) {
-            for (int i = 0; i < MOST_TEXTS; i++) {
-                text[i] = new Text(stack);
-            }
-            lawless = new Text(stack);
+        State(Text[] sharedTexts) {
+            text = sharedTexts;
         }
 
         void copyFrom(State other) {
@@ -478,9 +482,6 @@ public final class ForestOfPoles {
             steps.copyFrom(other.steps);
             finds.copyFrom(other.finds);
             claims.copyFrom(other.claims);
-            for (int i = 0; i < other.texts; i++) {
-                text[i].copyFrom(other.text[i]);
-            }
             texts = other.texts;
             ruling = other.ruling;
         }
@@ -490,7 +491,7 @@ public final class ForestOfPoles {
         }
 
         Text ruler() {
-            return isText(ruling) ? text[ruling] : lawless;
+            return text[isText(ruling) ? ruling : MOST_TEXTS];
         }
 
         void keepStep() {
@@ -704,7 +705,6 @@ public final class ForestOfPoles {
 
         void takeDown(int power, int pole) {
             height[pole * MOST_POWERS + power] = NONE;
-            wear[pole * MOST_POWERS + power] = 0;
         }
 
         boolean mayCut(int pole, int n) {
@@ -987,17 +987,6 @@ public final class ForestOfPoles {
             for (int law = 0; law < LAWS; law++) {
                 from[law] = NONE;
             }
-        }
-
-        void copyFrom(Text other) {
-            System.arraycopy(other.code, 0, code, 0, Tape.MOST);
-            System.arraycopy(other.from, 0, from, 0, LAWS);
-            System.arraycopy(other.upTo, 0, upTo, 0, LAWS);
-            System.arraycopy(other.kind, 0, kind, 0, MOST_CLAUSES);
-            System.arraycopy(other.first, 0, first, 0, MOST_CLAUSES);
-            System.arraycopy(other.second, 0, second, 0, MOST_CLAUSES);
-            size = other.size;
-            clauses = other.clauses;
         }
 
         boolean has(int law) {

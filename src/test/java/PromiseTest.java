@@ -262,6 +262,12 @@ public final class PromiseTest {
         fault("counts 1 in (1 and 1);", 1, 15);
         fault("counts 1 in ((1,2));", 1, 15);
         fault("counts 1 in 1;", 1, 12);
+        fault("counts 1 in 40;", 1, 12);
+        fault("counts 1 in -1);", 1, 12);
+        fault("counts 1=1);", 1, 10);
+        fault("counts 1 in (1));", 1, 15);
+        fault("counts 1 in (1),2;", 1, 15);
+        fault("counts 1,2=1;", 1, 8);
         fault("counts (1=1);", 1, 9);
         fault("counts (1 in (1));", 1, 10);
         fault("counts 1=not 1=1;", 1, 9);
@@ -272,6 +278,10 @@ public final class PromiseTest {
         fault("counts 1< =2;", 1, 10);
         fault("Blow 1;", 1, 0);
         fault("blowx 1;", 1, 0);
+        fault("blowa 1;", 1, 0);
+        fault("blowz 1;", 1, 0);
+        fault("blowA 1;", 1, 0);
+        fault("blowZ 1;", 1, 0);
         fault("at 1;", 1, 0);
         fault(";", 1, 0);
         fault("blow 1;;", 1, 7);
@@ -466,7 +476,7 @@ public final class PromiseTest {
     private static void laws() {
         promise = 19;
         String[] sums = {"7/2", "-7/2", "7/-2", "7/0", "0/0", "2+3*4", "(2+3)*4", "10-3-2", "20/3/2", "2*-3", "--3", "-3*2", "-3+2",
-            "9999*9999/9999-50", "-9999*9999/9999+50", "100", "-100", "9999*9999*9999-9999*9999*9999", "99", "-99", "8-2*3/4",
+            "9999*9999-9999*100-50", "-9999*9999+9999*100+50", "100", "-100", "9999*9999*9999-9999*9999*9999", "99", "-99", "8-2*3/4",
             "hour", "wind", "power", "hands", "tall", "height", "wear", "here", "holds", "9999*100+9999-9999*9-9990*91", "007"};
         int[] want = {3, -3, -3, 0, 0, 14, 20, 5, 3, -6, 3, -6, -1,
             50, -50, 99, -99, 0, 99, -99, 7,
@@ -508,9 +518,11 @@ public final class PromiseTest {
         promise = 19;
         String[] so = {"1<2", "1<=1", "2>1", "1>=1", "1=1", "1#2", "not 1=2", "not not 1=1", "1=1 or 1=2 and 1=2", "1=2 and 1=2 or 1=1",
             "not 1=2 and 1=1", "not 1=2 or 1=1", "power in (1,2,3)", "power in (power)", "2 in (1,1,1,1,1,2)", "not 3 in (1,2)",
-            "1+1 in (2*1,7)", "1 in (1) and 2 in (3,2)", "not 1 in (2) and not 2 in (1)", "-1 in (-1)", "1+2*3=7", "hands-4=height"};
+            "1+1 in (2*1,7)", "1 in (1) and 2 in (3,2)", "not 1 in (2) and not 2 in (1)", "-1 in (-1)", "1+2*3=7", "hands-4=height", "1#2 and 1=1",
+            "2>=1 and 1=1", "1<=2 and 1=1", "1<2 and 2>1", "1 in (1) and 1=1"};
         String[] not = {"1<1", "2<=1", "1>1", "1>=2", "1=2", "1#1", "not 1=1", "not not 1=2", "1=2 or 1=2", "1=1 and 1=2", "not 1=1 or 1=2",
-            "not 1=2 and 1=2", "3 in (1,2,4)", "not 1 in (1)", "1 in (2) or 1=2", "1 in (2,3,4,5,6,7)", "1=2 and 1=1 or 1=2", "holds=1"};
+            "not 1=2 and 1=2", "3 in (1,2,4)", "not 1 in (1)", "1 in (2) or 1=2", "1 in (2,3,4,5,6,7)", "1=2 and 1=1 or 1=2", "holds=1", "not 1#2",
+            "not 2>=1", "not 1<=2", "not 1<2", "not 2>1"};
         for (String ask : so) {
             due(ask, counts(ask), 1);
         }
@@ -737,6 +749,10 @@ public final class PromiseTest {
         ForestOfPoles g = new ForestOfPoles();
         g.pole(1, 1);
         due("another one: none", g.nearest(0), -1);
+        g = new ForestOfPoles();
+        g.pole(1, 0);
+        g.pole(1, 99);
+        row("as far as can be", new int[] {g.nearest(0), g.nearest(1)}, 1, 0);
         promise = 45;
         row("about", about(f), 5, 3, 0, -1, 6, 0, 0, 0);
         row("others", new int[] {f.about(8), f.about(-1), f.about(MAX)}, -2, -2, -2);
@@ -807,6 +823,7 @@ public final class PromiseTest {
         row("others", new int[] {f.foretold(0), f.foretold(61), f.foretold(-1), f.foretold(MAX)}, -2, -2, -2, -2);
         promise = 24;
         row("others", new int[] {f.foretoldWind(0), f.foretoldWind(61), f.foretoldWind(-1)}, -2, -2, -2);
+        due("foretoldWind(60)", f.foretoldWind(60) >= 0, true);
         row("winds", new int[] {f.foretoldWind(1), f.foretoldWind(2), f.foretoldWind(3)}, 9, 8, 5);
         promise = 23;
         row("heights", new int[] {f.foretoldHeight(1, 0, 0), f.foretoldHeight(2, 2, 1), f.foretoldHeight(3, 2, 1), f.foretoldHeight(1, 1, 0)}, 4, 8, 10, -1);
@@ -906,7 +923,28 @@ public final class PromiseTest {
         row("height 2", new int[] {f.peace(0), f.peace(1)}, 9, 19);
         f.hoist(2, 0);
         f.hour(1);
-        row("all is as before", new int[] {f.peace(0), f.peace(1), f.peace(2)}, 8, 18, -1);
+        row("others lower on its pole", new int[] {f.peace(0), f.peace(1), f.peace(2)}, 8, 18, -1);
+        f = new ForestOfPoles();
+        f.pole(1, 0);
+        f.pole(1, 0);
+        f.power(1, 0);
+        f.power(1, 0);
+        f.hoist(0, 0);
+        f.hoist(1, 1);
+        f.hour(1);
+        due("one foot can't be cut from one", f.peace(0), -1);
+        f = ruledBy("climbs 5;");
+        f.pole(8, 0);
+        f.hoist(0, 0);
+        f.hoist(1, 0);
+        f.hoist(0, 1);
+        f.hoist(2, 2);
+        f.hour(1);
+        row("one of its poles is free, those on which it is that high are not cut", new int[] {f.peace(0), f.peace(1), f.peace(2)}, 4, -1, 20 - 4 + 10 - 4);
+        f.hoist(1, 1);
+        f.hour(1);
+        f.prune(1, 3);
+        row("others as high on its only pole that high", new int[] {f.peace(0), f.ofPower(0, 3)}, -1, 10);
         promise = 30;
         f = small();
         f.hoist(0, 0);
@@ -1134,7 +1172,10 @@ public final class PromiseTest {
             f.pole(9, 9);
             f.power(9, 9);
             f.found(-1, true);
+            f.found(7, false);
             f.ahead(-1, 0);
+            f.ahead(2, 0);
+            f.ahead(2, 1);
             f.prune(0, 3);
             f.hour(5);
             put(f, "hou");
@@ -1144,7 +1185,7 @@ public final class PromiseTest {
             row("is", is(f), isThen);
             row("a flag", new int[] {f.flag(0, 0, 0), f.flag(0, 0, 1), f.flag(0, 0, 2), f.ofPole(0, 0)}, 14, 12, 7, 20);
             row("the fault stays", new int[] {f.fault(0), f.fault(1)}, 1, 13);
-            row("finds, claims, book", new int[] {f.rhythms(false), f.orders(-1), f.book(-1, 0)}, 20, 3, 1);
+            row("finds, claims, book", new int[] {f.rhythms(false), f.orders(-1), f.surely(0, 1), f.book(-1, 0)}, 20, 3, 1, 1);
             put(f, "blow 5;");
         }
         due("a text has the next number", f.text(), 1);
