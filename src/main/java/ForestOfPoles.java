@@ -1819,7 +1819,7 @@ public final class ForestOfPoles {
         }
 
         private void countPlaces(int step, int first) {
-            for (int place = first; place <= MOST_PLACE; place += step) {
+            for (int place = first; place <= MOST_PLACE && step > 0; place += step) {
                 having[place]++;
             }
         }
