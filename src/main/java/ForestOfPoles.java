@@ -796,17 +796,19 @@ public final class ForestOfPoles {
             return best;
         }
 
-        /** PEACE by its words: a pole on which the power is at its highest is never cut, and one of these is to be free. */
+        /**
+         * PEACE. Where others are that high the pole is cut, though the power is at its highest there too: one other
+         * pole on which it is that high, and they are not, keeps its height as it is.
+         */
         int leastCut(int power) {
             int top = greatest(power);
             boolean stands = false;
             int feet = 0;
             for (int pole = 0; pole < poles; pole++) {
-                boolean own = height[pole * MOST_POWERS + power] == top;
-                boolean othersAsHigh = greatestBut(power, pole) >= top;
-                stands = stands || own && !othersAsHigh;
-                if (!own && othersAsHigh) {
+                if (greatestBut(power, pole) >= top) {
                     feet += tall[pole] - (top - 1);
+                } else if (height[pole * MOST_POWERS + power] == top) {
+                    stands = true;
                 }
             }
             boolean tooLow = top < 2 && feet > 0;

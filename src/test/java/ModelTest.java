@@ -1095,19 +1095,29 @@ public final class ModelTest {
             return wanted == -1 ? fewest : best[wanted] == 0 ? 8 : best[wanted] - 1;
         }
 
+        /** By trial: each pole loses foot by foot till nobody else is that high on it; then its highest is to be as it was. */
         int peace(int a) {
             int top = greatest(a);
             if (!isPower(a) || top < 0) { return -1; }
-            List<Integer> own = new ArrayList<>();
-            List<Integer> rivals = new ArrayList<>();
-            flags.forEach((k, f) -> {
-                if (k % 10 == a && f[0] == top) { own.add(k / 10); }
-                if (k % 10 != a && f[0] >= top && !rivals.contains(k / 10)) { rivals.add(k / 10); }
-            });
-            if (rivals.containsAll(own)) { return -1; }
-            rivals.removeAll(own);
-            if (!rivals.isEmpty() && top < 2) { return -1; }
-            return rivals.stream().mapToInt(p -> poles.get(p)[1] - top + 1).sum();
+            Model m = copy();
+            int feet = 0;
+            for (int b = 0; b < poles.size(); b++) {
+                while (m.othersAsHigh(a, b, top)) {
+                    if (m.poles.get(b)[1] == 1) { return -1; }
+                    m.cut(b, 1);
+                    feet++;
+                }
+            }
+            return m.greatest(a) == top ? feet : -1;
+        }
+
+        boolean othersAsHigh(int a, int b, int top) {
+            boolean high = false;
+            for (Map.Entry<Integer, int[]> each : flags.entrySet()) {
+                int key = each.getKey();
+                high = high || key / 10 == b && key % 10 != a && each.getValue()[0] >= top;
+            }
+            return high;
         }
 
         int strings(int b) {

@@ -940,11 +940,18 @@ public final class PromiseTest {
         f.hoist(0, 1);
         f.hoist(2, 2);
         f.hour(1);
-        row("one of its poles is free, those on which it is that high are not cut", new int[] {f.peace(0), f.peace(1), f.peace(2)}, 4, -1, 20 - 4 + 10 - 4);
+        // height 5: power 0 on poles 0 and 1, power 1 with it on pole 0, power 2 on pole 2
+        row("one of its poles is free, the other one is cut", new int[] {f.peace(0), f.peace(1), f.peace(2)},
+                20 - 4 + 8 - 4, -1, 20 - 4 + 10 - 4);
+        due("so it has peace", f.prune(0, 16) == 4 && f.prune(2, 4) == 4, true);
+        row("so it has peace", new int[] {f.peace(0), f.ofPower(0, 3), f.ofPower(1, 3), f.ofPower(2, 3)}, 0, 5, 4, 4);
+        f.undo();
+        f.undo();
         f.hoist(1, 1);
         f.hour(1);
         f.prune(1, 3);
         row("others as high on its only pole that high", new int[] {f.peace(0), f.ofPower(0, 3)}, -1, 10);
+        peaceOnSeveralPoles();
         promise = 30;
         f = small();
         f.hoist(0, 0);
@@ -965,6 +972,30 @@ public final class PromiseTest {
         f.hoist(0, 0);
         f.hour(1);
         due("so that none would be it", f.strings(0), 17);
+    }
+
+    /** Power 0 on poles 0 and 1, another one with it on pole 1 alone, and later on both. */
+    private static void peaceOnSeveralPoles() {
+        ForestOfPoles f = ruledBy("climbs 1;");
+        f.hoist(0, 0);
+        f.hoist(0, 1);
+        f.hoist(1, 1);
+        due("height 0, others as high on one of its poles", f.peace(0), -1);
+        f.hour(1);
+        due("height 1, others as high on one of its poles", f.peace(0), -1);
+        f.hour(1);
+        row("height 2, others as high on one of its poles", new int[] {f.peace(0), f.peace(1)}, 10 - 1, -1);
+        f.prune(1, 9);
+        row("others lower than it on one of its poles", new int[] {f.peace(0), f.ofPower(0, 3)}, 0, 2);
+        f.undo();
+        f.hoist(2, 0);
+        due("others lower on the other one", f.peace(0), 10 - 1);
+        f.prune(0, 18);
+        f.hour(2);
+        // 2, 2 on pole 0, which is 2 tall; 4, 4 on pole 1
+        row("others as high on the one, its own lower on the other", new int[] {f.peace(0), f.peace(1), f.peace(2)}, -1, -1, -1);
+        f.prune(1, 8);
+        row("others as high on both", new int[] {f.peace(0), f.ofPower(0, 3), f.ofPower(1, 3), f.ofPower(2, 3)}, -1, 2, 2, 2);
     }
 
     private static void patterns() {
