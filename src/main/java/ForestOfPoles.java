@@ -78,7 +78,7 @@ public final class ForestOfPoles {
         now = new State(texts);
         kept = new State(texts);
         tape = new Tape();
-        reader = new Reader(tape);
+        reader = new Reader(tape, texts[0]);
         lookout = new Lookout();
     }
 
@@ -1248,7 +1248,7 @@ public final class ForestOfPoles {
         private static final int OF_ONE = 7;
 
         private final Tape tape;
-        private Text text = null;
+        private Text text;
         boolean hasRead = false;
         int fault = 0;
         int place = NONE;
@@ -1262,8 +1262,9 @@ public final class ForestOfPoles {
         private int listed = 0;
         private boolean asked = false;
 
-        Reader(Tape readTape) {
+        Reader(Tape readTape, Text firstText) {
             tape = readTape;
+            text = firstText;
         }
 
         void readInto(Text target) {

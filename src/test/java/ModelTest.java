@@ -98,7 +98,8 @@ public final class ModelTest {
                     newPower();
                 }
             }
-            for (int i = 0; i < 220 && !off; i++) {
+            // of an object's 512 calls the dearest turn asks for 80, flag by flag
+            for (int i = 0; i < 220 && !off && calls.size() < 430; i++) {
                 call();
             }
         }
