@@ -1311,6 +1311,12 @@ public final class BoundaryTest {
         says(19, "From the left");
         row("sums", new int[] {climbs("10-3-2"), climbs("20/3/2"), climbs("20/3*3"), climbs("2+3*4"), climbs("2*3+4"), climbs("8-2*3/4"), climbs("-3*2"), climbs("2*-3"), climbs("-3+2")},
             5, 3, 18, 14, 10, 7, -6, -6, -1);
+        says(19, "eight open around one another");
+        String nest = "1+2*(".repeat(8) + "1" + ")".repeat(8);
+        row("sums in sums", new int[] {climbs("-460+" + nest), climbs("-(-(-(7)))"), climbs("-(-(-(-(7))))"), climbs("-".repeat(7) + "5"), climbs("-".repeat(8) + "5")},
+            51, -7, 7, -5, 5);
+        String listed = " in (1,2,3,4,5," + "1+2*(".repeat(6) + "1" + ")".repeat(6) + ")";
+        row("sums in a list", new int[] {counts("1=2 or 1=1 and not 127" + listed), counts("1=2 or 1=1 and not 126" + listed), counts("1=2 or 1=1 and not not 127 in (127)")}, 0, 1, 1);
     }
 
     private static void asks() {
