@@ -1131,7 +1131,9 @@ public final class ForestOfPoles {
             if (next >= length) {
                 kind = END;
             } else if (isLetter(bytes[next])) {
-                takeWord();
+                kind = WORD;
+                passLetters();
+                value = numberOfWord();
             } else if (isDigit(bytes[next])) {
                 takeNumber();
             } else {
@@ -1139,12 +1141,10 @@ public final class ForestOfPoles {
             }
         }
 
-        private void takeWord() {
+        private void passLetters() {
             while (next < length && isLetter(bytes[next])) {
                 next++;
             }
-            kind = WORD;
-            value = numberOfWord();
         }
 
         private void takeNumber() {
@@ -1744,10 +1744,10 @@ public final class ForestOfPoles {
         }
 
         static int part(Forest forest, int power, int q, int amount) {
-            if (handsOf(forest, (1 << forest.powers) - 1) < q) {
+            int orders = orderings(forest.powers);
+            if (orders < 1 || handsOf(forest, (1 << forest.powers) - 1) < q) {
                 return 0;
             }
-            int orders = orderings(forest.powers);
             int mine = amount * decided(forest, power, q);
             int left = amount;
             int aheadOfMe = 0;

@@ -181,9 +181,8 @@ public final class LanguageTest {
 
         void call(Element element, Tree tree) {
             String name = element.getEnclosingElement() + "." + element;
-            if (name.startsWith("ForestOfPoles")) {
-                calls.computeIfAbsent(method, m -> new TreeSet<>()).add(name);
-            } else if (!LIBRARY.contains(name)) {
+            calls.computeIfAbsent(method, m -> new TreeSet<>()).add(name);
+            if (!name.startsWith("ForestOfPoles") && !LIBRARY.contains(name)) {
                 fail("rule 4, line " + start(tree) + ": " + name);
             }
         }
@@ -242,7 +241,7 @@ public final class LanguageTest {
             }
         }
 
-        /** A method that calls itself stands for one level. */
+        /** A method that calls itself stands for one level; a call of the library is a level too. */
         int depth(String m, List<String> open) {
             if (open.contains(m)) {
                 if (!open.get(open.size() - 1).equals(m)) {
